@@ -272,16 +272,27 @@ public final class WeekFoot {
     }
 
     public int lay(int one, int two, int three, int keeper, int what) {
-        if (!within(what, 0, 1) || !addUp(one, two, three, keeper, what)) {
+        boolean all = isMeasured(one) && isMeasured(two) && (three == NONE || isMeasured(three));
+        if (!all || !isKeeper(keeper) || !within(what, 0, 1) || !canBe()) {
             return NOTHING;
+        }
+        total.clear();
+        addFeet(one, keeper, what);
+        addFeet(two, keeper, what);
+        if (three != NONE) {
+            addFeet(three, keeper, what);
         }
         return atMost(total.sum(), MOST_LAID);
     }
 
     public int area(int one, int other, int keeper, int what) {
-        if (!within(what, 0, 1) || !addUp(one, other, NONE, keeper, what)) {
+        boolean both = isMeasured(one) && isMeasured(other);
+        if (!both || !isKeeper(keeper) || !within(what, 0, 1) || !canBe()) {
             return NOTHING;
         }
+        total.clear();
+        addFeet(one, keeper, what);
+        addFeet(other, keeper, what);
         return atMost(total.product(), MOST_SQUARE_FEET);
     }
 
@@ -580,29 +591,26 @@ public final class WeekFoot {
     }
 
     private boolean compareToFoot(int length, int keeper) {
-        return length < MEASURED && isKeeper(keeper) && compare(length, MEASURED + keeper);
-    }
-
-    /** Sets the total of the lengths' least (what 0) or greatest by a keeper's foot. */
-    private boolean addUp(int one, int two, int three, int keeper, int what) {
-        total.clear();
-        if (!addOne(one, keeper, what) || !addOne(two, keeper, what)) {
+        if (!isMeasured(length) || !isKeeper(keeper) || !canBe()) {
             return false;
         }
-        return three == NONE || addOne(three, keeper, what);
+        span.measure(ties, length, MEASURED + keeper);
+        return true;
     }
 
-    private boolean addOne(int length, int keeper, int what) {
-        if (!compareToFoot(length, keeper)) {
-            return false;
-        }
+    private boolean isMeasured(int length) {
+        return length < MEASURED && ledger.isThere(length);
+    }
+
+    /** Adds a length's least (what 0) or greatest by a keeper's foot to the total. */
+    private void addFeet(int length, int keeper, int what) {
+        span.measure(ties, length, MEASURED + keeper);
         if (what == 0) {
             // values that only come near to the least are above it: they have its wholes
             total.add(span.least.low, span.least.top, false);
         } else {
             total.add(span.greatest.top, span.greatest.low, span.greatest.open);
         }
-        return true;
     }
 
     /** Of a length that is not there none, fewer than of any other. */
@@ -923,13 +931,18 @@ public final class WeekFoot {
             end = 0;
             advance();
             for (int clauses = 1; clauses <= TAPE_BYTES; clauses++) {
-                if (!readClause(into)) {
-                    break;
+                boolean isRead;
+                if (take("week")) {
+                    isRead = readWeeks(into);
+                } else if (take("thing")) {
+                    isRead = readThing(into);
+                } else {
+                    isRead = readShorter(into);
                 }
-                if (start >= tape.length) {
+                if (isRead && start >= tape.length) {
                     return clauses;
                 }
-                if (!take(";")) {
+                if (!isRead || !take(";")) {
                     break;
                 }
             }
@@ -937,16 +950,6 @@ public final class WeekFoot {
                 faultPlace = start;
             }
             return NONE;
-        }
-
-        private boolean readClause(Ledger into) {
-            if (take("week")) {
-                return readWeeks(into);
-            }
-            if (stands("keeper")) {
-                return readShorter(into);
-            }
-            return take("thing") && readThing(into);
         }
 
         private boolean readWeeks(Ledger into) {
@@ -971,8 +974,7 @@ public final class WeekFoot {
 
         private boolean readShorter(Ledger into) {
             int place = start;
-            advance();
-            int one = takeNumber(0, KEEPERS - 1);
+            int one = take("keeper") ? takeNumber(0, KEEPERS - 1) : NONE;
             if (one == NONE || !take("below") || value() == one) {
                 return false;
             }
@@ -1035,19 +1037,16 @@ public final class WeekFoot {
             if (number == NONE) {
                 return false;
             }
-            into.addEntry(thing, week, number, takeKind());
-            return true;
-        }
-
-        private int takeKind() {
+            int kind = EXACT;
             if (take("whole")) {
-                return WHOLE;
+                kind = WHOLE;
+            } else if (take("half")) {
+                kind = HALF;
+            } else {
+                take("exact");
             }
-            if (take("half")) {
-                return HALF;
-            }
-            take("exact");
-            return EXACT;
+            into.addEntry(thing, week, number, kind);
+            return true;
         }
 
         private boolean take(String word) {
@@ -1092,31 +1091,26 @@ public final class WeekFoot {
         }
 
         private void advance() {
-            int at = end;
-            while (at < tape.length && tape.bytes[at] == BLANK) {
-                at++;
+            start = end;
+            while (start < tape.length && tape.bytes[start] == BLANK) {
+                start++;
             }
-            start = at;
-            end = at < tape.length ? endOfToken(at) : at;
-        }
-
-        private int endOfToken(int from) {
-            int family = familyOf(tape.bytes[from]);
-            int at = from + 1;
-            if (family == OTHER) {
-                return at;
+            end = start;
+            if (start >= tape.length) {
+                return;
             }
-            while (at < tape.length && familyOf(tape.bytes[at]) == family) {
-                at++;
+            int family = familyOf(tape.bytes[start]);
+            end++;
+            while (family != OTHER && end < tape.length && familyOf(tape.bytes[end]) == family) {
+                end++;
             }
-            return at;
         }
 
         private static int familyOf(int sign) {
-            if (within(sign, 'a', 'z')) {
+            if (sign >= 'a' && sign <= 'z') {
                 return LETTER;
             }
-            return within(sign, '0', '9') ? DIGIT : OTHER;
+            return sign >= '0' && sign <= '9' ? DIGIT : OTHER;
         }
     }
 
@@ -1146,12 +1140,6 @@ public final class WeekFoot {
             long others = otherTop * low;
             if (others < mine || (others == mine && otherOpen)) {
                 put(otherTop, otherLow, otherOpen);
-            }
-        }
-
-        void lessenByBoth(Bound one, Bound other) {
-            if (one.low != 0 && other.low != 0) {
-                lessen(one.top * other.top, one.low * other.low, one.open || other.open);
             }
         }
 
@@ -1207,7 +1195,12 @@ public final class WeekFoot {
                     step[p].lessen(1, 1, true);
                 }
             }
-            return eachFootHolds() && feetHoldTogether();
+            if (!eachFootHolds()) {
+                return false;
+            }
+            goOn(step, twoSteps);
+            goOn(twoSteps, reach);
+            return feetHoldTogether();
         }
 
         private void forget() {
@@ -1276,8 +1269,6 @@ public final class WeekFoot {
 
         /** Any round of four feet that leads below itself shows between two of them. */
         private boolean feetHoldTogether() {
-            goOn(step, twoSteps);
-            goOn(twoSteps, reach);
             for (int one = 0; one < KEEPERS; one++) {
                 for (int other = 0; other < one; other++) {
                     Bound there = reach[one * KEEPERS + other];
@@ -1300,8 +1291,10 @@ public final class WeekFoot {
                 }
                 further[p].put(ways[p].top, ways[p].low, ways[p].open);
                 for (int k = 0; k < KEEPERS; k++) {
-                    if (k != one && k != other) {
-                        further[p].lessenByBoth(ways[one * KEEPERS + k], step[k * KEEPERS + other]);
+                    Bound way = ways[one * KEEPERS + k];
+                    Bound last = step[k * KEEPERS + other];
+                    if (k != one && k != other && way.low != 0 && last.low != 0) {
+                        further[p].lessen(way.top * last.top, way.low * last.low, way.open || last.open);
                     }
                 }
             }
@@ -1334,7 +1327,9 @@ public final class WeekFoot {
                 return;
             }
             boolean open = way.open || (one < MEASURED && highOpen[one * KEEPERS + first]);
-            result.lessen(top * way.top * halvesIn(one, other), bottom * way.low * halvesIn(other, one), open);
+            top *= way.top * halvesIn(one, other);
+            bottom *= way.low * halvesIn(other, one);
+            result.lessen(top, bottom, open);
         }
 
         private int highOf(int length, int keeper) {
@@ -1606,22 +1601,16 @@ public final class WeekFoot {
                 return true;
             }
             fewest = 2;
-            for (int e = 0; e < ENTRIES; e++) {
-                if (hasBit(core, e)) {
-                    strikeWithAnother(book, core, e);
+            for (int p = 0; p < ENTRIES * ENTRIES; p++) {
+                int one = p / ENTRIES;
+                int other = p % ENTRIES;
+                // a pair of two of the core is tried from its lower one alone
+                boolean isTried = other == one || (hasBit(core, other) && other < one);
+                if (hasBit(core, one) && book.isCounting(other) && !isTried) {
+                    strike(book, 1 << one | 1 << other);
                 }
             }
             return ways > 0;
-        }
-
-        private void strikeWithAnother(Ledger book, int core, int entry) {
-            for (int e = 0; e < ENTRIES; e++) {
-                // a pair of two of the core is tried from its lower one alone
-                boolean isTried = hasBit(core, e) && e <= entry;
-                if (book.isCounting(e) && !isTried) {
-                    strike(book, 1 << entry | 1 << e);
-                }
-            }
         }
 
         private void strike(Ledger book, int entries) {
