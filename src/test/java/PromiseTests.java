@@ -429,7 +429,9 @@ public final class PromiseTests {
             {"thing 0 in 0 is 0", 16}, {"thing 0 in 0 is 100", 16}, {"thing 0 in 0 is one", 16},
             {"thing 0 in 0 is 5 halves", 18}, {"thing 0 in 0 is 5 half half", 23}, {"thing 0 in 0 is 5,", 18},
             {"thing 0 in 0 is 5,6", 18}, {"thing 0 in 0 is 5, cut in 3", 19}, {"thing 0 in 0 is 5.", 17},
-            {"thing 0 in 0 is 5 in 1 is 6", 18}, {"thing 0 in 0 is 5 ; ; x", 20}, {"\u00e9", 0}};
+            {"week 5 to", 9}, {"week 5 by", 9}, {"week 5 by ", 10}, {"week 5 byz 0", 7}, {"week 5 byA", 9},
+            {"keeper 0 below 1 2", 17}, {"keeper", 6}, {"thing", 5}, {"thing 0 cut in", 14}, {"thing 0 in 0 is", 15},
+            {"thing 0 in 0", 12}, {"thing 0 in", 10}, {"thing 0 in 0 is 5 in 1 is 6", 18}, {"thing 0 in 0 is 5 ; ; x", 20}, {"\u00e9", 0}};
         for (Object[] t : texts) {
             dueFault(x, (String) t[0], (Integer) t[1]);
         }
@@ -1005,6 +1007,15 @@ public final class PromiseTests {
         due("two", z.wrong(0), 2);
         due("two ways", z.wrong(1), 2);
         due("the lowest as bits", z.wrong(2), 17);
+        WeekFoot v = withKeepers();
+        for (int t = 0; t < 2; t++) {
+            v.entry(t, 0, 5, EXACT);
+            v.entry(t, 0, 5, HALF);
+            v.entry(t, 0, 6, EXACT);
+        }
+        due("two", v.wrong(0), 2);
+        due("only one way", v.wrong(1), 1);
+        due("which", v.wrong(2), 4 + 32);
     }
 
     private static void whoseWeeks() {
@@ -1040,6 +1051,17 @@ public final class PromiseTests {
         due("no week", x.whose(32), NONE);
         due("no week", x.whose(-2), NONE);
         due("the keepers are as they were", x.count(3), 5);
+        WeekFoot y = withKeepers();
+        for (int k = 0; k < 4; k++) {
+            y.entry(0, k, 9 - k, EXACT);
+        }
+        for (int k = 0; k < 4; k++) {
+            y.entry(0, 20, 9 - k, WHOLE);
+            due("sure of " + k, y.whose(20), k);
+            y.counts(4 + k, 0);
+        }
+        y.entry(0, 0, 7, EXACT);
+        due("none sought, no way", y.whose(NONE), 0);
     }
 
     private static void couldWeeks() {
@@ -1136,6 +1158,7 @@ public final class PromiseTests {
         x.tell(12, 1);
         x.tell(5, 9999);
         due("the most", x.says(5, 0, EXACT), 999900);
+        due("the last cut one", x.says(11, 2, EXACT), 25);
         due("a foot", x.says(12, 0, 0), NONE);
         due("no length", x.says(-1, 0, 0), NONE);
         due("no keeper", x.says(0, 4, 0), NONE);
@@ -1181,10 +1204,30 @@ public final class PromiseTests {
         due("not longer", x.judge(2), 1);
         x.tell(7, 201);
         due("longer behind the cut", x.judge(2), 0);
+        WeekFoot y = new WeekFoot();
+        y.shorter(3, 2);
+        due("alike feet", y.judge(2), 0);
+        y.tell(14, 101);
+        due("longer by one", y.judge(2), 1);
+        y.tell(12, 1);
+        y.tell(15, 102);
+        due("not shorter", y.judge(2), 0);
+        y.tell(15, 100);
+        y.cut(0, 31);
+        due("as long behind the cut", y.judge(2), 1);
+        y.tell(6, 101);
+        due("longer behind the cut", y.judge(2), 0);
+        y.cut(0, NONE);
+        due("not cut", y.judge(2), 1);
         x.tell(7, 100);
         x.week(4, 0);
         x.entry(1, 4, 2, EXACT);
         due("a cut one too", x.judge(0), 4);
+        x.counts(1, 1);
+        due("the first", x.judge(0), 1);
+        due("how many", x.judge(1), 2);
+        x.week(9, 3);
+        due("the very first", x.judge(0), 0);
         due("no such what", x.judge(3), NONE);
         due("no such what", x.judge(-1), NONE);
     }
