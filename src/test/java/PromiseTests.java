@@ -1,23 +1,5 @@
 /** For each promise of the document: ordinary inputs, its edges, wrong inputs. */
-public final class PromiseTests {
-    private static final int NONE = WeekFoot.NONE;
-    private static final int NOTHING = -2;
-    private static final int EXACT = 0;
-    private static final int WHOLE = 1;
-    private static final int HALF = 2;
-
-    private static int checked = 0;
-    private static int wrong = 0;
-    private static int promise = 0;
-
-    private static void due(String what, long got, long want) {
-        checked++;
-        if (got != want) {
-            wrong++;
-            System.out.println("promise " + promise + ": " + what + " answered " + got + ", due is " + want);
-        }
-    }
-
+public final class PromiseTests extends Desk {
     public static void main(String[] args) {
         newObject();
         weeks();
@@ -64,57 +46,13 @@ public final class PromiseTests {
         imagesKept();
         countsOfAll();
         statuses();
-        System.out.println(checked + " answers looked at, " + wrong + " are not as due");
-        if (wrong != 0) {
-            System.exit(1);
-        }
-    }
-
-    // ------------------------------------------------------------ helpers
-
-    /** Feeds a text, padded to twenties, and cuts the padding off. */
-    private static void type(WeekFoot x, String text) {
-        int before = x.count(5);
-        for (int i = 0; i < text.length(); i += 20) {
-            int[] five = new int[5];
-            for (int j = 0; j < 20; j++) {
-                int sign = i + j < text.length() ? text.charAt(i + j) : ' ';
-                five[j / 4] |= sign << 24 - 8 * (j % 4);
-            }
-            x.feed(five[0], five[1], five[2], five[3], five[4]);
-        }
-        x.end(before + text.length());
-    }
-
-    private static int bookOf(WeekFoot x, String text) {
-        type(x, text);
-        return x.book();
-    }
-
-    private static void dueFault(WeekFoot x, String text, int place) {
-        due("book " + text, bookOf(x, text), -6);
-        due("fault of " + text, x.fault(), place);
-    }
-
-    private static WeekFoot written(String text) {
-        WeekFoot x = new WeekFoot();
-        due("book " + text, bookOf(x, text) > 0 ? 1 : 0, 1);
-        return x;
-    }
-
-    /** Weeks 0 .. 3 by keepers 0 .. 3. */
-    private static WeekFoot withKeepers() {
-        WeekFoot x = new WeekFoot();
-        for (int k = 0; k < 4; k++) {
-            x.week(k, k);
-        }
-        return x;
+        finish();
     }
 
     // ------------------------------------------------------------ 1 .. 7: what is written
 
     private static void newObject() {
-        promise = 1;
+        at("promise 1");
         WeekFoot x = new WeekFoot();
         for (int what = 0; what <= 10; what++) {
             due("count(" + what + ")", x.count(what), 0);
@@ -131,7 +69,7 @@ public final class PromiseTests {
     }
 
     private static void weeks() {
-        promise = 2;
+        at("promise 2");
         WeekFoot x = new WeekFoot();
         due("week(0, 3)", x.week(0, 3), NONE);
         due("week(0, 0)", x.week(0, 0), 3);
@@ -150,7 +88,7 @@ public final class PromiseTests {
     }
 
     private static void cuts() {
-        promise = 3;
+        at("promise 3");
         WeekFoot x = new WeekFoot();
         due("cut(0, 1)", x.cut(0, 1), NONE);
         due("cut(0, 31)", x.cut(0, 31), 1);
@@ -167,7 +105,7 @@ public final class PromiseTests {
     }
 
     private static void shorters() {
-        promise = 4;
+        at("promise 4");
         WeekFoot x = new WeekFoot();
         due("shorter(0, 1)", x.shorter(0, 1), 1);
         due("shorter(1, 0)", x.shorter(1, 0), 2);
@@ -189,7 +127,7 @@ public final class PromiseTests {
     }
 
     private static void entries() {
-        promise = 5;
+        at("promise 5");
         WeekFoot x = new WeekFoot();
         int[][] bad = {{-1, 0, 1, 0}, {6, 0, 1, 0}, {0, -1, 1, 0}, {0, 32, 1, 0}, {0, 0, 0, 0},
             {0, 0, 100, 0}, {0, 0, 1, -1}, {0, 0, 1, 3}};
@@ -208,7 +146,7 @@ public final class PromiseTests {
     }
 
     private static void counting() {
-        promise = 6;
+        at("promise 6");
         WeekFoot x = new WeekFoot();
         x.entry(0, 0, 5, EXACT);
         x.entry(0, 0, 6, EXACT);
@@ -230,7 +168,7 @@ public final class PromiseTests {
     }
 
     private static void ofEntries() {
-        promise = 7;
+        at("promise 7");
         WeekFoot x = new WeekFoot();
         x.entry(3, 9, 77, HALF);
         x.entry(3, 10, 7, WHOLE);
@@ -255,7 +193,7 @@ public final class PromiseTests {
     // ------------------------------------------------------------ 8 .. 13: the tape
 
     private static void feeding() {
-        promise = 8;
+        at("promise 8");
         WeekFoot x = new WeekFoot();
         // highest byte first: thing 1, week 2, number 3, kind 1
         due("feed", x.feed(0x01020301, 0x050F6300, 0xFF000000, 0, 0), 20);
@@ -279,7 +217,7 @@ public final class PromiseTests {
     }
 
     private static void ending() {
-        promise = 9;
+        at("promise 9");
         WeekFoot x = new WeekFoot();
         due("end(0)", x.end(0), 0);
         due("end(1)", x.end(1), NONE);
@@ -296,7 +234,7 @@ public final class PromiseTests {
     }
 
     private static void rows() {
-        promise = 10;
+        at("promise 10");
         WeekFoot x = new WeekFoot();
         due("row of nothing", x.row(), -6);
         due("status", x.status(), -6);
@@ -330,7 +268,7 @@ public final class PromiseTests {
     }
 
     private static void blurredOnes() {
-        promise = 11;
+        at("promise 11");
         WeekFoot x = new WeekFoot();
         due("ahead of any", x.blurred(), 0);
         x.feed(0, 0, 0, 0, 0);
@@ -351,7 +289,7 @@ public final class PromiseTests {
     }
 
     private static void books() {
-        promise = 12;
+        at("promise 12");
         WeekFoot x = new WeekFoot();
         String text = "week 0to 3by 2;week 2 by nobody ; keeper 1 below 3;thing 4 cut in 31;"
                 + "thing 5in 0is 99,in 31 is 1whole , in 7 is 05 half,in 8 is 4exact;thing 0 cut never";
@@ -412,7 +350,7 @@ public final class PromiseTests {
     }
 
     private static void faults() {
-        promise = 13;
+        at("promise 13");
         WeekFoot x = new WeekFoot();
         due("ahead of any", x.fault(), NONE);
         Object[][] texts = {
@@ -448,7 +386,7 @@ public final class PromiseTests {
     // ------------------------------------------------------------ 14 .. 18: lengths beside lengths
 
     private static void fitting() {
-        promise = 14;
+        at("promise 14");
         WeekFoot x = withKeepers();
         x.entry(0, 0, 5, EXACT);
         due("one", x.fits(), 1);
@@ -508,7 +446,7 @@ public final class PromiseTests {
     }
 
     private static void betweens() {
-        promise = 15;
+        at("promise 15");
         WeekFoot x = withKeepers();
         x.entry(0, 0, 3, WHOLE);
         x.entry(0, 1, 7, EXACT);
@@ -596,7 +534,7 @@ public final class PromiseTests {
     }
 
     private static void sureOnes() {
-        promise = 16;
+        at("promise 16");
         WeekFoot x = withKeepers();
         x.entry(0, 0, 3, WHOLE);
         x.entry(1, 0, 4, WHOLE);
@@ -622,7 +560,7 @@ public final class PromiseTests {
     }
 
     private static void feetOfLengths() {
-        promise = 17;
+        at("promise 17");
         WeekFoot x = withKeepers();
         x.entry(0, 0, 3, HALF);
         due("fewest", x.feet(0, 0, 0), 2);
@@ -653,7 +591,7 @@ public final class PromiseTests {
     }
 
     private static void parts() {
-        promise = 18;
+        at("promise 18");
         WeekFoot x = withKeepers();
         x.entry(0, 0, 6, EXACT);
         x.entry(0, 1, 4, EXACT);
@@ -684,7 +622,7 @@ public final class PromiseTests {
     // ------------------------------------------------------------ 19 .. 24: feet together, numbers
 
     private static void laid() {
-        promise = 19;
+        at("promise 19");
         WeekFoot x = withKeepers();
         x.entry(0, 0, 3, EXACT);
         x.entry(0, 1, 2, EXACT);
@@ -723,7 +661,7 @@ public final class PromiseTests {
     }
 
     private static void areas() {
-        promise = 20;
+        at("promise 20");
         WeekFoot x = withKeepers();
         x.entry(0, 0, 3, EXACT);
         x.entry(0, 1, 2, EXACT);
@@ -749,7 +687,7 @@ public final class PromiseTests {
     }
 
     private static void oneMore() {
-        promise = 21;
+        at("promise 21");
         WeekFoot x = withKeepers();
         x.entry(0, 0, 5, WHOLE);
         due("nothing new", x.would(0, 0, 5, WHOLE), 1);
@@ -781,7 +719,7 @@ public final class PromiseTests {
     }
 
     private static void couldNumbers() {
-        promise = 22;
+        at("promise 22");
         WeekFoot x = withKeepers();
         x.entry(0, 0, 5, HALF);
         // from 4.5 to below 5.5
@@ -817,7 +755,7 @@ public final class PromiseTests {
     }
 
     private static void asking() {
-        promise = 23;
+        at("promise 23");
         WeekFoot x = withKeepers();
         due("the lowest of alike ones", x.ask(0), 0);
         due("the lowest of alike ones", x.ask(1), 0);
@@ -843,7 +781,7 @@ public final class PromiseTests {
     }
 
     private static void datesOfTold() {
-        promise = 24;
+        at("promise 24");
         WeekFoot x = new WeekFoot();
         bookOf(x, "week 3 to 6 by 0;week 10 to 11 by 1;week 20 by 2;thing 0 in 3 is 4;thing 0 in 10 is 8");
         due("4 by keeper 0, perhaps by 2", x.dates(0, 4, EXACT, 0), 5);
@@ -872,7 +810,7 @@ public final class PromiseTests {
     // ------------------------------------------------------------ 25 .. 31: what hangs together
 
     private static void joinedOnes() {
-        promise = 25;
+        at("promise 25");
         WeekFoot x = withKeepers();
         due("itself", x.joined(0, 0), 1);
         due("not yet", x.joined(0, 12), 0);
@@ -902,7 +840,7 @@ public final class PromiseTests {
     }
 
     private static void groupsOfThem() {
-        promise = 26;
+        at("promise 26");
         WeekFoot x = withKeepers();
         due("groups", x.groups(0), 10);
         due("to measure", x.groups(1), 9);
@@ -932,7 +870,7 @@ public final class PromiseTests {
     }
 
     private static void cores() {
-        promise = 27;
+        at("promise 27");
         WeekFoot x = withKeepers();
         due("none", x.core(), 0);
         x.entry(0, 0, 5, EXACT);
@@ -956,7 +894,7 @@ public final class PromiseTests {
     }
 
     private static void wrongOnes() {
-        promise = 28;
+        at("promise 28");
         WeekFoot x = withKeepers();
         due("none", x.wrong(0), 0);
         due("one way", x.wrong(1), 1);
@@ -1019,7 +957,7 @@ public final class PromiseTests {
     }
 
     private static void whoseWeeks() {
-        promise = 29;
+        at("promise 29");
         WeekFoot x = withKeepers();
         x.entry(0, 0, 6, EXACT);
         x.entry(0, 1, 5, EXACT);
@@ -1065,7 +1003,7 @@ public final class PromiseTests {
     }
 
     private static void couldWeeks() {
-        promise = 30;
+        at("promise 30");
         WeekFoot x = withKeepers();
         x.entry(0, 0, 6, EXACT);
         x.entry(0, 1, 5, EXACT);
@@ -1094,7 +1032,7 @@ public final class PromiseTests {
     }
 
     private static void whenCut() {
-        promise = 31;
+        at("promise 31");
         WeekFoot x = new WeekFoot();
         bookOf(x, "week 0 to 31 by 0;thing 0 in 5 is 9,in 8 is 7,in 20 is 7");
         due("weeks 6 to 8", x.when(0, 0), 3);
@@ -1123,7 +1061,7 @@ public final class PromiseTests {
     // ------------------------------------------------------------ 32 .. 37: the told world, the year
 
     private static void toldWorld() {
-        promise = 32;
+        at("promise 32");
         WeekFoot x = new WeekFoot();
         for (int length = 0; length < 16; length++) {
             due("at first", x.tell(length, 200 + length), 100);
@@ -1140,7 +1078,7 @@ public final class PromiseTests {
     }
 
     private static void saying() {
-        promise = 33;
+        at("promise 33");
         WeekFoot x = new WeekFoot();
         x.tell(0, 1000);
         x.tell(6, 50);
@@ -1168,7 +1106,7 @@ public final class PromiseTests {
     }
 
     private static void judging() {
-        promise = 34;
+        at("promise 34");
         WeekFoot x = withKeepers();
         due("none", x.judge(0), NONE);
         due("none", x.judge(1), 0);
@@ -1232,19 +1170,8 @@ public final class PromiseTests {
         due("no such what", x.judge(-1), NONE);
     }
 
-    /** The keepers of a year with a seed. */
-    private static int[] drawn(long seed) {
-        int[] keepers = new int[32];
-        long s = seed;
-        for (int w = 0; w < 32; w++) {
-            s = (s * 1103 + 12345) % 1000003;
-            keepers[w] = (int) (s % 4);
-        }
-        return keepers;
-    }
-
     private static void years() {
-        promise = 35;
+        at("promise 35");
         WeekFoot x = new WeekFoot();
         due("alike feet", x.year(0, 0, 1), 0);
         x.tell(0, 1000);
@@ -1282,7 +1209,7 @@ public final class PromiseTests {
     }
 
     private static void trades() {
-        promise = 36;
+        at("promise 36");
         WeekFoot x = new WeekFoot();
         for (int what = -1; what < 40; what++) {
             due("ahead of any", x.trade(what), NONE);
@@ -1306,7 +1233,7 @@ public final class PromiseTests {
     }
 
     private static void toldFeet() {
-        promise = 37;
+        at("promise 37");
         WeekFoot x = new WeekFoot();
         due("ahead of any", x.told(0), NONE);
         x.tell(0, 1000);
@@ -1333,17 +1260,17 @@ public final class PromiseTests {
     // ------------------------------------------------------------ 38 .. 41: images, counts, status
 
     private static void imagesKept() {
-        promise = 38;
+        at("promise 38");
         WeekFoot x = withKeepers();
         due("image(2)", x.image(2), -1);
         due("status", x.status(), -1);
         due("image(-1)", x.image(-1), -1);
-        promise = 39;
+        at("promise 39");
         due("back(0)", x.back(0), -2);
         due("status", x.status(), -2);
         due("back(2)", x.back(2), -1);
         due("back(-1)", x.back(-1), -1);
-        promise = 38;
+        at("promise 38");
         x.entry(0, 0, 5, EXACT);
         x.counts(0, 0);
         x.cut(3, 3);
@@ -1358,7 +1285,7 @@ public final class PromiseTests {
         x.week(0, NONE);
         x.feed(1, 2, 3, 4, 5);
         due("image(1)", x.image(1), 0);
-        promise = 39;
+        at("promise 39");
         due("back(0)", x.back(0), 0);
         due("entries", x.count(0), 1);
         due("those that count", x.count(1), 0);
@@ -1385,7 +1312,7 @@ public final class PromiseTests {
     }
 
     private static void countsOfAll() {
-        promise = 40;
+        at("promise 40");
         WeekFoot x = new WeekFoot();
         x.entry(0, 0, 1, 0);
         x.entry(0, 0, 1, 0);
@@ -1422,7 +1349,7 @@ public final class PromiseTests {
     }
 
     private static void statuses() {
-        promise = 41;
+        at("promise 41");
         WeekFoot x = new WeekFoot();
         due("ahead of any", x.status(), 0);
         x.week(-1, 0);
