@@ -472,6 +472,21 @@ public final class TermEdges extends Desk {
         due("known", x.whose(NONE), 64);
         due("not one of them", x.whose(20), NONE);
         due("not one of them", x.could(20, 0), NONE);
+        at("Terms III: WHOSE, with all 24 ENTRIES");
+        WeekFoot full = new WeekFoot();
+        full.week(0, 0);
+        for (int e = 0; e < 24; e++) {
+            full.entry(e < 21 ? 0 : e - 20, e < 21 ? 0 : e + 8, 5, EXACT);
+        }
+        due("ways", full.whose(NONE), 64);
+        due("the last week", full.whose(31), 5);
+        due("one without entries", full.whose(28), NONE);
+        due("by each keeper", full.could(31, 3), 16);
+        full.week(30, 1);
+        full.week(31, 1);
+        due("one week", full.could(29, 3), 1);
+        full.week(29, 1);
+        due("no such week", full.whose(NONE), 1);
     }
 
     private static void weeksByWhichItCanBe() {
